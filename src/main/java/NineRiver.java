@@ -27,6 +27,7 @@ public final class NineRiver {
     private static final int BAD_TEXT = -6;
 
     private final State state = new State();
+    // An image is null until it is kept.
     private final State[] images = new State[IMAGES];
     private final int[] tape = new int[TAPE_ROOM];
     private final int[] refusals = new int[5];
@@ -34,7 +35,7 @@ public final class NineRiver {
     private final Reader reader = new Reader();
     private final Stream stream = new Stream(state);
     private final Travel travel = new Travel(state, stream);
-    private final Dyes dyes = new Dyes(state, travel);
+    private final Dyes dyes = new Dyes(state, stream, travel);
     private final Sleuth sleuth = new Sleuth(state, travel);
     private final Thrower thrower = new Thrower(stream);
     private final Tuner tuner = new Tuner(state, stream, travel);
@@ -45,7 +46,6 @@ public final class NineRiver {
     private boolean hasWeek = false;
 
     public NineRiver() {
-        // An image is null until it is kept, so that an object that keeps none stays small.
     }
 
     public int pump(int pump, int a, int b, int c, int d, int strong) {
@@ -180,7 +180,7 @@ public final class NineRiver {
             return refuse(NO_ROOM);
         }
         Law read = reader.read(tape, length);
-        faultAt = read == null ? reader.place() : NONE;
+        faultAt = read == null ? reader.stoppedAt() : NONE;
         if (read == null) {
             return refuse(BAD_TEXT);
         }
@@ -318,7 +318,8 @@ public final class NineRiver {
         if (!isHour(hour) || !isColour(colour) || !isFlag(what)) {
             return NONE;
         }
-        return what == 0 ? dyes.fullest(hour, colour) : dyes.coloured(hour, colour);
+        dyes.spread(hour, colour);
+        return what == 0 ? dyes.fullest() : dyes.coloured();
     }
 
     public int least(int cell, int a, int b, int hour, int what) {
@@ -426,18 +427,22 @@ public final class NineRiver {
     }
 
     public int best(int pump, int what) {
-        return isPump(pump) && what >= 0 && what <= 2 ? tuner.tuned(pump, what) : NONE;
+        if (!isPump(pump)) {
+            return NONE;
+        }
+        tuner.tune(pump);
+        return tuner.tuned(what);
     }
 
     public int set(int pump) {
         if (!isPump(pump)) {
             return refuse(NO_SUCH);
         }
-        int wishes = tuner.tuned(pump, 0);
-        int clock = tuner.tuned(pump, 1);
-        state.tellClocks(pump, clock, (clock + tuner.tuned(pump, 2)) % DAY_LONG);
+        tuner.tune(pump);
+        int clock = tuner.tuned(1);
+        state.tellClocks(pump, clock, (clock + tuner.tuned(2)) % DAY_LONG);
         turnRiver();
-        return accept(wishes);
+        return accept(tuner.tuned(0));
     }
 
     public int week(int seed, int rate) {
@@ -627,7 +632,7 @@ public final class NineRiver {
         }
 
         int at(int i, int part) {
-            return has(i) && part >= 0 && part < WIDE ? items[i * WIDE + part] : 0;
+            return i >= 0 && i < size && part >= 0 && part < WIDE ? items[i * WIDE + part] : 0;
         }
 
         void change(int i, int part, int value) {
@@ -737,17 +742,22 @@ public final class NineRiver {
             return isInReach ? pumpPart(pump, 4) : 0;
         }
 
-        boolean runsAt(int pump, int clock) {
-            int c = pumpPart(pump, 2);
-            int d = pumpPart(pump, 3);
-            if (c < d) {
-                return clock >= c && clock < d;
+        /** How strong a pump is at a cell in an hour, but for strikes. */
+        int pumpedBy(int pump, int cell, int hour) {
+            if (pump < 0 || pump >= PUMPS) {
+                return 0;
             }
-            return c == d || clock >= c || clock < d;
+            int start = pump * PUMP_PARTS;
+            int c = pumps[start + 2];
+            int d = pumps[start + 3];
+            int clock = hour % DAY_LONG;
+            boolean isInReach = cell >= pumps[start] && cell <= pumps[start + 1];
+            boolean isRunning = c < d ? clock >= c && clock < d : c == d || clock >= c || clock < d;
+            return isInReach && isRunning ? pumps[start + 4] : 0;
         }
 
-        int pumpedBy(int pump, int cell, int hour) {
-            return runsAt(pump, hour % DAY_LONG) ? strengthAt(pump, cell) : 0;
+        int pumpedAt(int cell, int hour, int strike) {
+            return strike == 1 ? 0 : pumpedBy(0, cell, hour) + pumpedBy(1, cell, hour);
         }
 
         int strikeIn(int hour) {
@@ -837,8 +847,8 @@ public final class NineRiver {
         // Each word has eight places, so that word k begins at 8k.
         private static final int WORD_WIDE = 8;
         private static final int WORDS = 17;
-        private static final String WORD_LIST = "flows   costs   tolls   bars    if      or      and     not     cell    "
-            + "hour    day     strike  pumped  mills   natural down    year    ";
+        private static final String WORD_LIST =
+            "flows   costs   tolls   bars    if      or      and     not     cell    hour    day     strike  pumped  mills   natural down    year    ";
 
         // A token is a byte's own value, or one of these, or a known word's number above FIRST_WORD.
         private static final int AT_END = -1;
@@ -852,38 +862,95 @@ public final class NineRiver {
         private static final int NOT_WORD = FIRST_WORD + 7;
         private static final int FIRST_PART = FIRST_WORD + 8;
 
-        private final int[] text = new int[TAPE_ROOM];
         private final int[] kinds = new int[CLAUSES];
         private final int[] marks = new int[2 * CLAUSES + 1];
         private final int[] code = new int[TAPE_ROOM];
-        private int textSize = 0;
+        // The text's tokens, the end last: what each is, where it stands, which number.
+        private final int[] tokens = new int[TAPE_ROOM + 1];
+        private final int[] places = new int[TAPE_ROOM + 1];
+        private final int[] numbers = new int[TAPE_ROOM + 1];
+        private int tokenCount = 0;
         private int clauses = 0;
         private int parts = 0;
         private int length = 0;
+        private int at = 0;
         private int token = AT_END;
-        private int place = 0;
-        private int next = 0;
-        private int number = 0;
 
         /** Where the token stands at which reading stopped. */
-        int place() {
-            return place;
+        int stoppedAt() {
+            return at >= 0 && at < places.length ? places[at] : 0;
         }
 
-        Law read(int[] tape, int size) {
-            textSize = Math.max(0, Math.min(size, Math.min(tape.length, text.length)));
-            System.arraycopy(tape, 0, text, 0, textSize);
+        /** The law that a text is; null if it can't be one. */
+        Law read(int[] text, int size) {
+            int textSize = Math.max(0, Math.min(size, Math.min(text.length, TAPE_ROOM)));
+            tokenCount = 0;
+            int next = 0;
+            while (next < textSize) {
+                next = text[next] == ' ' ? next + 1 : Math.max(next + 1, readToken(text, next, textSize));
+            }
+            addToken(AT_END, textSize, 0);
             clauses = 0;
             parts = 0;
             length = 0;
-            next = 0;
-            advance();
+            moveTo(0);
             boolean isGood = clause();
             for (int i = 1; isGood && token == ';' && i <= CLAUSES; i++) {
-                advance();
+                moveTo(at + 1);
                 isGood = clause();
             }
             return isGood && token == AT_END ? new Law(clauses, kinds, marks, code, length) : null;
+        }
+
+        /** Reads the token at a place: where it ends. */
+        private int readToken(int[] text, int place, int size) {
+            int next = place + 1;
+            int number = text[place] - '0';
+            if (isLetter(text[place])) {
+                while (next < size && isLetter(text[next])) {
+                    next++;
+                }
+                addToken(findWord(text, place, next), place, 0);
+            } else if (isDigit(text[place])) {
+                for (; next < size && isDigit(text[next]); next++) {
+                    number = Math.min(number * 10 + text[next] - '0', HIGHEST + 1);
+                }
+                addToken(A_NUMBER, place, number);
+            } else {
+                addToken(text[place], place, 0);
+            }
+            return next;
+        }
+
+        private void addToken(int what, int place, int number) {
+            if (tokenCount < tokens.length) {
+                tokens[tokenCount] = what;
+                places[tokenCount] = place;
+                numbers[tokenCount] = number;
+                tokenCount++;
+            }
+        }
+
+        private static int findWord(int[] text, int from, int till) {
+            for (int k = 0; k < WORDS; k++) {
+                boolean isSame = till - from < WORD_WIDE;
+                for (int i = 0; isSame && i < WORD_WIDE; i++) {
+                    int sign = from + i < till ? text[from + i] : ' ';
+                    isSame = sign == WORD_LIST.charAt(k * WORD_WIDE + i);
+                }
+                if (isSame) {
+                    return FIRST_WORD + k;
+                }
+            }
+            return A_STRANGER;
+        }
+
+        private static boolean isLetter(int sign) {
+            return sign >= 'a' && sign <= 'z';
+        }
+
+        private static boolean isDigit(int sign) {
+            return sign >= '0' && sign <= '9';
         }
 
         private boolean clause() {
@@ -893,13 +960,13 @@ public final class NineRiver {
             kinds[clauses] = token - FIRST_WORD;
             boolean hasSum = token != BARS_WORD;
             marks[2 * clauses] = length;
-            advance();
+            moveTo(at + 1);
             if (hasSum && !sum(0)) {
                 return false;
             }
             marks[2 * clauses + 1] = length;
             if (token == IF_WORD) {
-                advance();
+                moveTo(at + 1);
                 if (!test(0)) {
                     return false;
                 }
@@ -909,84 +976,104 @@ public final class NineRiver {
             return true;
         }
 
+        /** TEST and BOTH: what is behind "and" is skipped up to its end, what is behind "or" up to the next "or". */
         private boolean test(int deep) {
-            boolean isGood = both(deep);
-            while (isGood && token == OR_WORD) {
-                int skip = emit(Law.SKIP_IF_SO, 0);
-                advance();
-                isGood = both(deep);
-                aim(skip);
-            }
-            return isGood;
-        }
-
-        private boolean both(int deep) {
+            int orSkip = NONE;
             boolean isGood = plain(deep);
-            while (isGood && token == AND_WORD) {
-                int skip = emit(Law.SKIP_UNLESS_SO, 0);
-                advance();
+            for (int i = 0; i < TAPE_ROOM && isGood && (token == OR_WORD || token == AND_WORD); i++) {
+                boolean isOr = token == OR_WORD;
+                if (isOr) {
+                    aim(orSkip);
+                }
+                int skip = emit(isOr ? Law.SKIP_IF_SO : Law.SKIP_UNLESS_SO, 0);
+                moveTo(at + 1);
                 isGood = plain(deep);
-                aim(skip);
+                if (isOr) {
+                    orSkip = skip;
+                } else {
+                    aim(skip);
+                }
             }
+            aim(orSkip);
             return isGood;
         }
 
         private boolean plain(int deep) {
             boolean isTurned = false;
             // A loop and no recursion: a text may have a hundred of them.
-            while (token == NOT_WORD) {
+            for (int i = 0; i < TAPE_ROOM && token == NOT_WORD; i++) {
                 isTurned = !isTurned;
-                advance();
+                moveTo(at + 1);
             }
-            boolean isGood = token == '(' ? bracketedTest(deep) : comparison(deep);
-            if (isGood && isTurned) {
+            boolean isGood = token == '(' ? enclosed(deep) : comparison(deep);
+            if (isTurned) {
                 emit(Law.NOT, 0);
             }
             return isGood;
         }
 
-        private boolean bracketedTest(int deep) {
+        private boolean enclosed(int deep) {
             if (deep >= BRACKETS) {
                 return false;
             }
-            advance();
-            return test(deep + 1) && closes(')');
+            moveTo(at + 1);
+            boolean isClosed = test(deep + 1) && token == ')';
+            moveTo(isClosed ? at + 1 : at);
+            return isClosed;
         }
 
         private boolean comparison(int deep) {
-            if (!sum(deep)) {
-                return false;
-            }
-            int op = token == '<' ? Law.LESS : token == '>' ? Law.MORE : Law.SAME;
-            if (op == Law.SAME && token != '=') {
-                return false;
-            }
-            advance();
             boolean isGood = sum(deep);
+            int op = token == '<' ? Law.LESS : token == '>' ? Law.MORE : Law.SAME;
+            if (!isGood || op == Law.SAME && token != '=') {
+                return false;
+            }
+            moveTo(at + 1);
+            isGood = sum(deep);
             emit(op, 0);
             return isGood;
         }
 
+        /** SUM and TERM: a "+" or "-" waits until the products behind it are written. */
         private boolean sum(int deep) {
-            boolean isGood = term(deep);
-            while (isGood && (token == '+' || token == '-')) {
-                int op = token == '+' ? Law.ADD : Law.TAKE;
-                advance();
-                isGood = term(deep);
-                emit(op, 0);
+            int waiting = NONE;
+            boolean isGood = part(deep);
+            int op = arithmetic();
+            for (int i = 0; i < TAPE_ROOM && isGood && op != NONE; i++) {
+                boolean isSum = op == Law.ADD || op == Law.TAKE;
+                if (isSum && waiting != NONE) {
+                    emit(waiting, 0);
+                }
+                moveTo(at + 1);
+                isGood = part(deep);
+                if (isSum) {
+                    waiting = op;
+                } else {
+                    emit(op, 0);
+                }
+                op = arithmetic();
+            }
+            if (waiting != NONE) {
+                emit(waiting, 0);
             }
             return isGood;
         }
 
-        private boolean term(int deep) {
-            boolean isGood = part(deep);
-            while (isGood && (token == '*' || token == '/' || token == '%')) {
-                int op = token == '*' ? Law.TIMES : token == '/' ? Law.OVER : Law.LEFT;
-                advance();
-                isGood = part(deep);
-                emit(op, 0);
+        private int arithmetic() {
+            switch (token) {
+                case '+':
+                    return Law.ADD;
+                case '-':
+                    return Law.TAKE;
+                case '*':
+                    return Law.TIMES;
+                case '/':
+                    return Law.OVER;
+                case '%':
+                    return Law.LEFT;
+                default:
+                    return NONE;
             }
-            return isGood;
         }
 
         private boolean part(int deep) {
@@ -994,24 +1081,19 @@ public final class NineRiver {
                 if (deep >= BRACKETS) {
                     return false;
                 }
-                advance();
-                return sum(deep + 1) && closes(']');
+                moveTo(at + 1);
+                boolean isClosed = sum(deep + 1) && token == ']';
+                moveTo(isClosed ? at + 1 : at);
+                return isClosed;
             }
+            int number = at >= 0 && at < numbers.length ? numbers[at] : 0;
             boolean isNumber = token == A_NUMBER && number <= HIGHEST;
             if (parts >= PARTS || !isNumber && token < FIRST_PART) {
                 return false;
             }
             emit(isNumber ? Law.NUMBER : Law.WORD, isNumber ? number : token - FIRST_PART);
             parts++;
-            advance();
-            return true;
-        }
-
-        private boolean closes(int bracket) {
-            if (token != bracket) {
-                return false;
-            }
-            advance();
+            moveTo(at + 1);
             return true;
         }
 
@@ -1031,65 +1113,9 @@ public final class NineRiver {
             }
         }
 
-        private void advance() {
-            while (next < textSize && text[next] == ' ') {
-                next++;
-            }
-            place = next;
-            if (next >= textSize) {
-                token = AT_END;
-            } else if (isLetter(text[next])) {
-                readWord();
-            } else if (isDigit(text[next])) {
-                readNumber();
-            } else {
-                token = text[next];
-                next++;
-            }
-        }
-
-        private void readWord() {
-            while (next < textSize && isLetter(text[next])) {
-                next++;
-            }
-            token = A_STRANGER;
-            for (int k = 0; k < WORDS; k++) {
-                if (isWord(k)) {
-                    token = FIRST_WORD + k;
-                }
-            }
-        }
-
-        /** Whether the letters from place to next are word k. */
-        private boolean isWord(int k) {
-            int letters = next - place;
-            if (letters > WORD_WIDE || (k + 1) * WORD_WIDE > WORD_LIST.length()) {
-                return false;
-            }
-            for (int i = 0; i < WORD_WIDE; i++) {
-                int sign = i < letters ? text[place + i] : ' ';
-                if (sign != WORD_LIST.charAt(k * WORD_WIDE + i)) {
-                    return false;
-                }
-            }
-            return true;
-        }
-
-        private void readNumber() {
-            number = 0;
-            while (next < textSize && isDigit(text[next])) {
-                number = Math.min(number * 10 + text[next] - '0', HIGHEST + 1);
-                next++;
-            }
-            token = A_NUMBER;
-        }
-
-        private static boolean isLetter(int sign) {
-            return sign >= 'a' && sign <= 'z';
-        }
-
-        private static boolean isDigit(int sign) {
-            return sign >= '0' && sign <= '9';
+        private void moveTo(int i) {
+            at = i;
+            token = at >= 0 && at < tokenCount ? tokens[at] : AT_END;
         }
     }
 
@@ -1192,7 +1218,8 @@ public final class NineRiver {
 
         private final State state;
         private final Asker asker = new Asker();
-        // Both are found when first asked; 0: not found yet. A way is the landing, and FLOW + 7 above it.
+        // Both are found when first asked; 0: not found yet. A way is the landing, and FLOW + 7 above it; a price one more
+        // than it is.
         private final int[] ways = new int[SPOTS];
         private final int[] prices = new int[SPOTS];
         private final int[] shutGates = new int[HOURS];
@@ -1208,12 +1235,23 @@ public final class NineRiver {
         }
 
         int flowAt(int cell, int hour) {
-            return (wayFrom(cell, hour) >> FLOW_SHIFT) - SWIFTEST - 1;
+            stepFrom(cell, hour);
+            return isCell(cell) && isHour(hour) ? (ways[hour * CELLS + cell] >> FLOW_SHIFT) - SWIFTEST - 1 : 0;
         }
 
         /** Where a thing is an hour later; what is in the sea stays. */
         int stepFrom(int place, int hour) {
-            return isCell(place) && isHour(hour) ? wayFrom(place, hour) & LANDING_MASK : place;
+            if (!isCell(place) || !isHour(hour)) {
+                return place;
+            }
+            refresh();
+            int spot = hour * CELLS + place;
+            if (ways[spot] == 0) {
+                int strike = state.strikeIn(hour);
+                int flow = flowBy(place, hour, strike, state.pumpedAt(place, hour, strike));
+                ways[spot] = flow + SWIFTEST + 1 << FLOW_SHIFT | walk(place, hour, flow);
+            }
+            return ways[spot] & LANDING_MASK;
         }
 
         /** As stepFrom, if there were a strike in that hour, or none. */
@@ -1221,7 +1259,7 @@ public final class NineRiver {
             if (strike == state.strikeIn(hour) || !isCell(place)) {
                 return stepFrom(place, hour);
             }
-            return stepBy(place, hour, strike, strike == 1 ? 0 : pumpedAt(place, hour));
+            return stepBy(place, hour, strike, state.pumpedAt(place, hour, strike));
         }
 
         /** As stepFrom, by a strike and pumps that may be others than those that stand. */
@@ -1230,11 +1268,29 @@ public final class NineRiver {
         }
 
         int costAt(int cell, int hour) {
-            return (priceAt(cell, hour) & BARRED_BIT - 1) - 1;
+            return priceAt(cell, hour) & BARRED_BIT - 1;
         }
 
         boolean isBarred(int cell, int hour) {
-            return (priceAt(cell, hour) & BARRED_BIT) != 0;
+            return priceAt(cell, hour) >= BARRED_BIT;
+        }
+
+        /** What a throw costs, and BARRED_BIT more if it is barred. */
+        int priceAt(int cell, int hour) {
+            if (!isCell(cell) || !isHour(hour)) {
+                return 0;
+            }
+            refresh();
+            int spot = hour * CELLS + cell;
+            Law law = state.lawInForce();
+            if (prices[spot] == 0 && law != null) {
+                askAbout(cell, hour);
+                int told = asker.tells(law, Law.COSTS);
+                int cost = told == Asker.SILENT ? 1 : Math.max(0, Math.min(told, DEAREST_THROW));
+                int bar = asker.tells(law, Law.BARS) == Asker.SILENT ? 0 : BARRED_BIT;
+                prices[spot] = 1 + (cost | bar);
+            }
+            return law == null ? 1 : prices[spot] - 1;
         }
 
         /** What a crossing from a cell is tolled, down (1) or up (0). */
@@ -1271,50 +1327,6 @@ public final class NineRiver {
             return all;
         }
 
-        private int pumpedAt(int cell, int hour) {
-            return state.pumpedBy(0, cell, hour) + state.pumpedBy(1, cell, hour);
-        }
-
-        private int pumpedNow(int cell, int hour) {
-            return state.strikeIn(hour) == 1 ? 0 : pumpedAt(cell, hour);
-        }
-
-        private int wayFrom(int cell, int hour) {
-            refresh();
-            if (!isCell(cell) || !isHour(hour)) {
-                return 0;
-            }
-            int spot = hour * CELLS + cell;
-            if (ways[spot] == 0) {
-                int flow = flowBy(cell, hour, state.strikeIn(hour), pumpedNow(cell, hour));
-                ways[spot] = flow + SWIFTEST + 1 << FLOW_SHIFT | walk(cell, hour, flow);
-            }
-            return ways[spot];
-        }
-
-        private int priceAt(int cell, int hour) {
-            refresh();
-            if (!isCell(cell) || !isHour(hour)) {
-                return 0;
-            }
-            int spot = hour * CELLS + cell;
-            if (prices[spot] == 0) {
-                prices[spot] = findPrice(cell, hour);
-            }
-            return prices[spot];
-        }
-
-        private int findPrice(int cell, int hour) {
-            Law law = state.lawInForce();
-            if (law == null) {
-                return 1 + 1;
-            }
-            askAbout(cell, hour);
-            int told = asker.tells(law, Law.COSTS);
-            int cost = told == Asker.SILENT ? 1 : Math.max(0, Math.min(told, DEAREST_THROW));
-            return 1 + cost | (asker.tells(law, Law.BARS) == Asker.SILENT ? 0 : BARRED_BIT);
-        }
-
         private int flowBy(int cell, int hour, int strike, int pumped) {
             refresh();
             Law law = state.lawInForce();
@@ -1330,7 +1342,8 @@ public final class NineRiver {
         private void askAbout(int cell, int hour) {
             refresh();
             if (isCell(cell)) {
-                asker.about(cell, hour, state.strikeIn(hour), pumpedNow(cell, hour), millsAt[cell], state);
+                int strike = state.strikeIn(hour);
+                asker.about(cell, hour, strike, state.pumpedAt(cell, hour, strike), millsAt[cell], state);
             }
         }
 
@@ -1539,6 +1552,7 @@ public final class NineRiver {
         private static final int MOST_JOBS = 6;
 
         private final State state;
+        private final Stream stream;
         private final Travel travel;
         private final int[] amounts = new int[CELLS];
         // By hours: the cells that have any colour, as bits.
@@ -1551,8 +1565,9 @@ public final class NineRiver {
         private int orders = 0;
         private boolean isSpoilt = true;
 
-        Dyes(State state, Travel travel) {
+        Dyes(State state, Stream stream, Travel travel) {
             this.state = state;
+            this.stream = stream;
             this.travel = travel;
         }
 
@@ -1576,7 +1591,7 @@ public final class NineRiver {
                 int h = Math.max(hour, state.pours.at(i, 1));
                 int at = placeOf(i, h, colour);
                 while (at != NONE && at != place && h < HOURS) {
-                    at = travel.drift(at, h, h + 1);
+                    at = stream.stepFrom(at, h);
                     h++;
                 }
                 if (at == place && (first == NONE || h < first)) {
@@ -1586,8 +1601,19 @@ public final class NineRiver {
             return first;
         }
 
-        int fullest(int hour, int colour) {
-            spread(hour, colour);
+        /** Finds how much of a colour is in each cell at an hour. */
+        void spread(int hour, int colour) {
+            Arrays.fill(amounts, 0);
+            for (int i = 0; i < state.pours.size(); i++) {
+                int at = placeOf(i, hour, colour);
+                if (isCell(at)) {
+                    amounts[at] += state.pours.at(i, 3);
+                }
+            }
+        }
+
+        /** The lowest cell of those that have the most as it was spread last; NONE if none has any. */
+        int fullest() {
             int found = NONE;
             int most = 0;
             for (int cell = 0; cell < CELLS; cell++) {
@@ -1599,8 +1625,8 @@ public final class NineRiver {
             return found;
         }
 
-        int coloured(int hour, int colour) {
-            spread(hour, colour);
+        /** How many cells have some as it was spread last. */
+        int coloured() {
             int some = 0;
             for (int amount : amounts) {
                 some += amount > 0 ? 1 : 0;
@@ -1635,16 +1661,6 @@ public final class NineRiver {
             return travel.drift(state.pours.at(i, 0), since, hour);
         }
 
-        private void spread(int hour, int colour) {
-            Arrays.fill(amounts, 0);
-            for (int i = 0; i < state.pours.size(); i++) {
-                int at = placeOf(i, hour, colour);
-                if (isCell(at)) {
-                    amounts[at] += state.pours.at(i, 3);
-                }
-            }
-        }
-
         private void wash() {
             done = NONE;
             orders = 0;
@@ -1661,7 +1677,7 @@ public final class NineRiver {
                 int at = state.pours.at(i, 0);
                 for (int hour = state.pours.at(i, 1); hour >= 0 && hour < HOURS && isCell(at); hour++) {
                     tints[hour] |= 1 << at;
-                    at = travel.drift(at, hour, hour + 1);
+                    at = stream.stepFrom(at, hour);
                 }
             }
         }
@@ -1849,12 +1865,10 @@ public final class NineRiver {
         }
 
         private void weigh(int cell, int hour) {
-            if (stream.isBarred(cell, hour)) {
-                return;
-            }
-            int cost = stream.costAt(cell, hour);
+            int cost = stream.priceAt(cell, hour);
             boolean isLess = found[0] == NONE || cost < found[0];
-            if (isLess || cost == found[0] && there[cell] <= found[3]) {
+            boolean isAlike = cost == found[0] && there[cell] <= found[3];
+            if (cost < Stream.BARRED_BIT && (isLess || isAlike)) {
                 found[0] = cost;
                 found[1] = cell;
                 found[2] = hour;
@@ -1939,15 +1953,15 @@ public final class NineRiver {
             return bits;
         }
 
-        int tuned(int pump, int what) {
-            if (tunedPump != pump) {
-                tune(pump);
-                tunedPump = pump;
-            }
+        int tuned(int what) {
             return what >= 0 && what < finest.length ? finest[what] : NONE;
         }
 
-        private void tune(int pump) {
+        void tune(int pump) {
+            if (tunedPump == pump) {
+                return;
+            }
+            tunedPump = pump;
             Arrays.fill(turns, 0);
             finest[0] = NONE;
             for (int longs = 1; longs <= LONGEST; longs++) {
