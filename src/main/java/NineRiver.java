@@ -701,7 +701,9 @@ public final class NineRiver {
         void copyFrom(State other) {
             System.arraycopy(other.pumps, 0, pumps, 0, pumps.length);
             System.arraycopy(other.strikes, 0, strikes, 0, strikes.length);
-            System.arraycopy(other.laws, 0, laws, 0, laws.length);
+            for (int i = 0; i < LAWS; i++) {
+                laws[i] = other.laws[i];
+            }
             gates.copyFrom(other.gates);
             mills.copyFrom(other.mills);
             boats.copyFrom(other.boats);
@@ -1121,7 +1123,8 @@ public final class NineRiver {
 
     /** Asks a law about a cell and an hour. */
     private static final class Asker {
-        private static final int SILENT = Integer.MIN_VALUE;
+        // Farther than any sum that is not broken.
+        private static final int SILENT = -2000000000;
         private static final int FARTHEST = 1000000000;
         private static final int DOWN_WORD = 7;
 
