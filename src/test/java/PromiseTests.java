@@ -309,10 +309,11 @@ public final class PromiseTests {
         due(12, "no room for more than 16", x.row(), 13);
         due(13, "foam()", x.foam(), 2);
         due(12, "count(5)", x.count(5), 16);
+        x.undo();
         x.image(0);
-        x.feed(0, 0, 0, 0, 0);
-        x.end(1);
-        due(12, "row() of one byte", x.row(), 0);
+        x.feed(1, 1, 1, 1, 1);
+        x.end(3);
+        due(12, "row() of three bytes", x.row(), 0);
         due(13, "foam()", x.foam(), 1);
         x.back(0);
         due(51, "images do not keep foam", x.foam(), 1);
@@ -369,6 +370,12 @@ public final class PromiseTests {
         fault("flows 1" + (char) 200, 7);
         fault("flows 1" + (char) 0, 7);
         fault("flows cells", 6);
+        fault("flows cellz", 6);
+        fault("flows zcell", 6);
+        fault("flows bell", 6);
+        fault("glows 1", 0);
+        fault("flows naturals", 6);
+        fault("flows naturally", 6);
         fault("flows cellhour", 6);
         fault("flows if", 6);
         fault("flows 1if1=1", NONE);
@@ -414,6 +421,16 @@ public final class PromiseTests {
         for (int i = 0; i < 6; i++) {
             x.force(i);
             due(14, "flow by law " + i, x.flow(0, 0), i);
+        }
+        NineRiver z = new NineRiver();
+        for (int i = 0; i < 6; i++) {
+            write(z, repeat("bars if cell=1", 11, ";") + ";flows " + i + "+" + repeat("1-1", 13, "+"));
+            due(14, "law() of as much as can be", z.law(), i);
+        }
+        for (int i = 0; i < 6; i++) {
+            z.force(i);
+            due(14, "flow by long law " + i, z.flow(0, 0), i);
+            due(14, "barred by long law " + i, z.asks(1, 0, 1), 1);
         }
         NineRiver y = new NineRiver();
         write(y, "flows (");
@@ -558,6 +575,13 @@ public final class PromiseTests {
         NineRiver z = lawful("bars; costs 1/0");
         due(18, "bars always", z.asks(9, 9, 1), 1);
         due(18, "costs broken", z.asks(9, 9, 0), 1);
+        NineRiver v = lawful("costs 0; bars; tolls mills");
+        due(18, "barred and free", v.asks(0, 0, 1), 1);
+        due(18, "barred and free", v.asks(0, 0, 0), 0);
+        v.mill(5);
+        due(18, "tolled by mills", v.asks(5, 0, 2), 1);
+        v.mill(5);
+        due(18, "tolled by mills anew", v.asks(5, 0, 3), 2);
         NineRiver w = lawful("costs cell + hour * 10 + day * 100 + mills");
         w.mill(3);
         due(18, "costs by the words", w.asks(3, 53, 0), 254);
@@ -693,6 +717,10 @@ public final class PromiseTests {
         x.moor(3, 0, 0);
         due(25, "moored till met", x.meet(2, 3, 0), 1);
         due(25, "moored till met", x.meet(2, 3, 1), 21);
+        NineRiver z = new NineRiver();
+        z.boat(0, 0);
+        due(25, "no such boat", z.meet(0, 1, 0), NONE);
+        due(25, "no such boat", z.meet(1, 0, 0), NONE);
         NineRiver y = lawful("flows 0; flows 1 if cell = 4 and hour = 23 and day = 3");
         y.boat(4, 0);
         y.boat(5, 95);
@@ -794,6 +822,9 @@ public final class PromiseTests {
         x.undo();
         x.undo();
         due(30, "the most", x.most(0, 1, 0), 9);
+        x.pour(0, 50, 3, 1);
+        due(30, "the least amount at cell 0", x.most(50, 3, 0), 0);
+        due(30, "the least amount at cell 0", x.most(50, 3, 1), 1);
         due(30, "most(96, 1, 0)", x.most(96, 1, 0), NONE);
         due(30, "most(96, 1, 1)", x.most(96, 1, 1), NONE);
         due(30, "most(-1, 1, 1)", x.most(-1, 1, 1), NONE);
@@ -837,6 +868,9 @@ public final class PromiseTests {
         least(z, new int[] {4, 6, 6, 0}, 1, 3, 0, 6);
         NineRiver w = lawful("flows 0; costs cell");
         least(w, new int[] {4, 7, 9, 0}, 4, 4, 0, 7);
+        NineRiver u = lawful("costs 0; bars if cell > 3");
+        least(u, new int[] {5, 0, 96, 0}, 0, 3, 0, 2);
+        least(u, new int[] {5, 0, 1, 0}, NONE, NONE, NONE, NONE);
         NineRiver v = lawful("flows 0; costs 0");
         least(v, new int[] {4, 7, 9, 8}, 0, 4, 8, 8);
     }
@@ -859,6 +893,9 @@ public final class PromiseTests {
         x.undo();
         x.undo();
         due(34, "so(0) behind undo", x.so(0), 0);
+        x.pour(2, 0, 1, 1);
+        due(34, "so(0) by the least amount", x.so(0), 1);
+        due(35, "suspects(1, NONE): seen and not", x.suspects(1, NONE), 0);
         for (int i = 6; i <= 10; i++) {
             due(32, "sight", x.sight(0, 0, 3, 0), i);
         }
@@ -913,6 +950,14 @@ public final class PromiseTests {
         due(35, "to hour 96", y.suspects(0, 22), 95 * 24 + 22);
         y.sight(23, 96, 0, 0);
         due(35, "seen and not", y.suspects(0, NONE), 0);
+        NineRiver w = new NineRiver();
+        w.sight(2, 0, 0, 0);
+        w.sight(0, 0, 1, 1);
+        w.sight(4, 2, 0, 1);
+        due(35, "one not seen ahead of one seen", w.suspects(0, NONE), 2);
+        due(35, "one not seen ahead of one seen", w.suspects(0, 0), 27);
+        due(36, "one not seen ahead of one seen", w.pairs(0), 2 * 2301 + 1);
+        due(35, "of one colour alone", w.suspects(1, NONE), 1);
         NineRiver z = new NineRiver();
         z.terms(0, 0);
         z.sight(5, 3, 0, 1);
@@ -966,6 +1011,12 @@ public final class PromiseTests {
         refused(37, x, "job hour 96", x.job(0, 1, 96), -1);
         refused(37, x, "job hour -1", x.job(0, 1, -1), -1);
         due(37, "count(7)", x.count(7), 6);
+        NineRiver z = new NineRiver();
+        z.job(0, 2, 95);
+        laundry(z, NONE, 0, NONE);
+        z.hang();
+        z.job(0, 1, 95);
+        laundry(z, 96, 1, 0, NONE, NONE, NONE, NONE, NONE, 95);
         NineRiver y = new NineRiver();
         y.terms(0, 0);
         y.pour(3, 10, 2, 1);
@@ -1013,6 +1064,10 @@ public final class PromiseTests {
         NineRiver z = lawful("flows 0; flows 1 if cell = 0 and hour = 9; flows 0-1 if cell = 1 and hour = 23");
         due(40, "the answer at 96", z.lovers(0, 1, 73, 0), 96);
         due(40, "the answer at 96", z.lovers(0, 1, 73, 1), 81);
+        NineRiver w = lawful("flows 0; flows 1 if cell = 0 and hour + day = 0; flows 0-1 if cell = 1 and hour = 1");
+        due(40, "thrown in hour 0 alone", w.lovers(0, 1, 0, 0), 2);
+        due(40, "thrown in hour 0 alone", w.lovers(0, 1, 0, 1), 0);
+        due(40, "thrown in hour 0 alone", w.lovers(0, 1, 1, 0), NONE);
     }
 
     private static void promise41() {
@@ -1065,6 +1120,10 @@ public final class PromiseTests {
         y.pump(0, 0, 23, 0, 0, 3);
         due(42, "it ends in the same cell", y.matters(2, 0, 9, NONE), 1);
         due(42, "the last hour alone", y.matters(2, 0, 9, 0), 8);
+        NineRiver w = lawful("flows 1; flows 2 if strike = 0");
+        w.strike(5, 6, 1);
+        due(42, "without one that there is", w.matters(0, 5, 7, NONE), 2);
+        due(42, "strike is 0 without one", w.matters(0, 5, 6, 0), 5);
         NineRiver z = lawful("flows 1; flows 2 if strike = 1");
         due(42, "by a law", z.matters(0, 4, 9, NONE), 5);
         due(42, "by a law", z.matters(0, 4, 9, 4), 8);
@@ -1155,6 +1214,29 @@ public final class PromiseTests {
         best(z, 1, 1, 6, 1);
         z.pump(0, 0, 9, 9, 9, 2);
         best(z, 1, 1, 0, 6);
+        // Cell 6 is not the pump's, 5 is: up by 1 from there.
+        NineRiver w = new NineRiver();
+        w.terms(0, 0);
+        w.pump(0, 3, 5, 7, 7, 1);
+        w.wish(6, 0, 5, 3);
+        best(w, 0, 0, 0, 1);
+        w.drop();
+        w.wish(5, 0, 4, 3);
+        best(w, 0, 1, 0, 1);
+        w.wish(3, 0, 2, 3);
+        best(w, 0, 2, 0, 1);
+        w.wish(2, 0, 1, 3);
+        best(w, 0, 2, 0, 1);
+        due(46, "flow(4, 1) ahead of set", w.flow(4, 1), -1);
+        due(47, "set(0)", w.set(0), 2);
+        due(47, "flow(4, 1) behind set", w.flow(4, 1), 0);
+        NineRiver v = lawful("flows mills");
+        v.wish(0, 0, 1, 1);
+        best(v, 0, 0, 0, 1);
+        v.mill(0);
+        best(v, 0, 1, 0, 1);
+        v.drop();
+        best(v, 0, 0, 0, 1);
     }
 
     private static void promise48and49() {
@@ -1229,10 +1311,33 @@ public final class PromiseTests {
         full(x);
         due(51, "images stay: back(0)", x.back(0), 0);
         due(51, "count(0)", x.count(0), 0);
+        write(x, "flows 4");
+        due(51, "another law", x.law(), 0);
+        x.force(0);
+        due(51, "flow by it", x.flow(0, 0), 4);
+        due(51, "back(1)", x.back(1), 0);
+        full(x);
+        due(51, "back(0)", x.back(0), 0);
         due(50, "image(1) anew", x.image(1), 0);
         x.mill(3);
         due(51, "back(1)", x.back(1), 0);
         due(51, "count(3)", x.count(3), 0);
+        for (int i = 0; i < 16; i++) {
+            x.gate(0, 0, 0);
+            x.mill(0);
+            x.boat(0, 0);
+            x.pour(0, 0, 0, 1);
+            x.sight(0, 0, 0, 0);
+            x.job(0, 1, 0);
+            x.wish(0, 0, 0, 0);
+        }
+        x.image(1);
+        x.back(0);
+        x.back(1);
+        int[] most = {8, 6, 6, 16, 10, 6, 6};
+        for (int i = 0; i < most.length; i++) {
+            due(51, "count(" + (2 + i) + ") of all there is room for", x.count(2 + i), most[i]);
+        }
     }
 
     private static void fill(NineRiver x) {
