@@ -1000,6 +1000,7 @@ public final class NineRiver {
             return isGood;
         }
 
+        /** PLAIN, its comparison within: one call more would go too deep. */
         private boolean plain(int deep) {
             boolean isTurned = false;
             // A loop and no recursion: a text may have a hundred of them.
@@ -1007,7 +1008,19 @@ public final class NineRiver {
                 isTurned = !isTurned;
                 moveTo(at + 1);
             }
-            boolean isGood = token == '(' ? enclosed(deep) : comparison(deep);
+            boolean isGood;
+            if (token == '(') {
+                isGood = enclosed(deep);
+            } else {
+                isGood = sum(deep);
+                int op = token == '<' ? Law.LESS : token == '>' ? Law.MORE : Law.SAME;
+                if (!isGood || op == Law.SAME && token != '=') {
+                    return false;
+                }
+                moveTo(at + 1);
+                isGood = sum(deep);
+                emit(op, 0);
+            }
             if (isTurned) {
                 emit(Law.NOT, 0);
             }
@@ -1022,18 +1035,6 @@ public final class NineRiver {
             boolean isClosed = test(deep + 1) && token == ')';
             moveTo(isClosed ? at + 1 : at);
             return isClosed;
-        }
-
-        private boolean comparison(int deep) {
-            boolean isGood = sum(deep);
-            int op = token == '<' ? Law.LESS : token == '>' ? Law.MORE : Law.SAME;
-            if (!isGood || op == Law.SAME && token != '=') {
-                return false;
-            }
-            moveTo(at + 1);
-            isGood = sum(deep);
-            emit(op, 0);
-            return isGood;
         }
 
         /** SUM and TERM: a "+" or "-" waits until the products behind it are written. */

@@ -1230,6 +1230,17 @@ public final class PromiseTests {
         due(46, "flow(4, 1) ahead of set", w.flow(4, 1), -1);
         due(47, "set(0)", w.set(0), 2);
         due(47, "flow(4, 1) behind set", w.flow(4, 1), 0);
+        NineRiver u = new NineRiver();
+        u.pump(0, 0, 23, 0, 0, 1);
+        u.wish(5, 0, 5, 6);
+        best(u, 0, 1, 0, 6);
+        u.drop();
+        u.wish(5, 0, 5, 7);
+        best(u, 0, 0, 0, 1);
+        u.wish(5, 23, 6, 25);
+        best(u, 0, 1, 0, 1);
+        u.wish(5, 22, 6, 24);
+        best(u, 0, 2, 23, 1);
         NineRiver v = lawful("flows mills");
         v.wish(0, 0, 1, 1);
         best(v, 0, 0, 0, 1);
