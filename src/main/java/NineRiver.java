@@ -1984,9 +1984,10 @@ public final class NineRiver {
             int wishes = 0;
             for (int i = 0; i < state.wishes.size(); i++) {
                 int at = state.wishes.at(i, 0);
-                for (int hour = state.wishes.at(i, 1); hour < state.wishes.at(i, 3) && isCell(at); hour++) {
-                    int turn = isHour(hour) ? turns[hour * CELLS + at] : 0;
-                    turn = turn == 0 ? findTurn(pump, at, hour) : turn;
+                int till = state.wishes.at(i, 3);
+                for (int hour = state.wishes.at(i, 1); hour < till && isHour(hour) && isCell(at); hour++) {
+                    int known = turns[hour * CELLS + at];
+                    int turn = known == 0 ? findTurn(pump, at, hour) : known;
                     // The clock wraps over midnight.
                     boolean isOn = (hour % DAY_LONG - clock + DAY_LONG) % DAY_LONG < longs;
                     at = (isOn ? turn >> PLACE_BITS : turn) & PLACE_MASK;

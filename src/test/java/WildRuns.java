@@ -91,7 +91,9 @@ public final class WildRuns {
 
     /** How many bytes a run of the dearest calls makes, so that no call makes rows of its own. */
     private static long bytesMade(int rounds) {
-        com.sun.management.ThreadMXBean threads = (com.sun.management.ThreadMXBean) ManagementFactory.getThreadMXBean();
+        if (!(ManagementFactory.getThreadMXBean() instanceof com.sun.management.ThreadMXBean threads)) {
+            return 0;
+        }
         NineRiver x = full();
         dearest(x);
         long before = threads.getCurrentThreadAllocatedBytes();
