@@ -452,7 +452,7 @@ public final class TermsTests {
             + fault(7, "flows 1:") + fault(5, "flows`1") + fault(5, "flows{1") + fault(5, "flows@1") + fault(5, "flows!1") + fault(6, "flows /1")
             + fault(5, "flows" + (char) 9 + "1") + fault(5, "flows" + (char) 0 + "1") + fault(7, "flows 1" + (char) 10)
             + fault(7, "flows 1" + (char) 255) + fault(7, "flows 1" + (char) 160) + fault(0, (char) 225 + "flows 1")
-            + fault(0, (char) 255 + " 1") + fault(0, (char) 254 + " 1") + fault(0, (char) 128 + ""));
+            + fault(0, (char) 255 + " 1") + fault(0, (char) 254 + " 1") + fault(0, (char) 128 + "") + fault(7, "flows 1" + (char) 0) + fault(0, (char) 0 + "bars"));
     }
 
     private static void grammar() {
