@@ -8,8 +8,11 @@ import java.nio.file.Path;
 import java.util.ArrayList;
 import java.util.Arrays;
 import java.util.HashSet;
+import java.util.LinkedHashSet;
 import java.util.List;
+import java.util.Map;
 import java.util.Set;
+import java.util.TreeMap;
 import java.util.TreeSet;
 import java.util.regex.Matcher;
 import java.util.regex.Pattern;
@@ -164,10 +167,67 @@ public final class LanguageTests {
         }
     }
 
+    private static final Set<String> LIBRARY = Set.of("java/lang/Object.<init>", "java/lang/Integer.bitCount", "java/lang/Math.abs",
+        "java/lang/Math.max", "java/lang/Math.min", "java/lang/String.charAt", "java/lang/System.arraycopy",
+        "java/util/Arrays.copyOf", "java/util/Arrays.fill");
+    private static final int[] FORBIDDEN = {Bytecode.THROWS, Bytecode.CASTS, Bytecode.ASKS_KIND, Bytecode.LOCKS, Bytecode.UNLOCKS,
+        Bytecode.INVOKES_DYNAMIC, Bytecode.INVOKES_INTERFACE, Bytecode.MAKES_ROWS};
+
+    private static void compiled() throws IOException {
+        Map<String, Set<String>> calls = new TreeMap<>();
+        for (Class<?> type : allClasses()) {
+            for (Bytecode method : Bytecode.of(type)) {
+                calls.computeIfAbsent(method.name, name -> new TreeSet<>()).addAll(method.calls);
+                looksAtWhatItUses(method);
+            }
+        }
+        for (Set<String> called : calls.values()) {
+            for (String name : called) {
+                hold(calls.containsKey(name) || LIBRARY.contains(name), "LANGUAGE.md lists " + name);
+            }
+            called.removeAll(LIBRARY);
+        }
+        Set<String> open = new LinkedHashSet<>();
+        for (String name : calls.keySet()) {
+            if (name.startsWith("NineRiver.")) {
+                int deep = deepest(name, calls, open);
+                hold(deep <= 8, name + " goes eight calls deep at most, not " + deep);
+            }
+        }
+        hold(deepest("NineRiver.law", calls, open) >= 7, "calls are found");
+    }
+
+    private static void looksAtWhatItUses(Bytecode method) {
+        for (int instruction : FORBIDDEN) {
+            hold(!method.instructions.contains(instruction), method.name + " has no instruction " + instruction);
+        }
+        hold(method.handlers == 0, method.name + " catches nothing");
+        // A law divides by what its text tells; PromiseTests and TermsTests have the runs that divide by 0.
+        hold(method.dividesByConstantsAlone || method.name.equals("NineRiver$Asker.run"), method.name + " divides by constants alone");
+        boolean makes = method.instructions.contains(Bytecode.MAKES_OBJECT) || method.instructions.contains(Bytecode.MAKES_NUMBERS)
+            || method.instructions.contains(Bytecode.MAKES_REFERENCES);
+        boolean mayMake = method.name.endsWith(".<init>") || List.of("NineRiver.image", "NineRiver$Reader.read").contains(method.name);
+        hold(!makes || mayMake, method.name + " makes nothing");
+    }
+
+    /** How many methods stand open at most, each counted once. */
+    private static int deepest(String name, Map<String, Set<String>> calls, Set<String> open) {
+        open.add(name);
+        int most = 0;
+        for (String called : calls.getOrDefault(name, Set.of())) {
+            if (!open.contains(called)) {
+                most = Math.max(most, deepest(called, calls, open));
+            }
+        }
+        open.remove(name);
+        return most + 1;
+    }
+
     public static void main(String[] args) throws IOException {
         face();
         classes();
         source();
+        compiled();
         System.out.println(wrong == 0 ? "the language is kept" : wrong + " rules are not kept");
         if (wrong != 0) {
             System.exit(1);
